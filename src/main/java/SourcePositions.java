@@ -256,6 +256,7 @@ public final class SourcePositions {
                 shares += parts[i].share;
             }
         }
+        // A SHARE is never below 1; the divisor is looked at all the same.
         return shares < 1 ? 0 : READINGS * of.share / shares;
     }
 
@@ -351,6 +352,7 @@ public final class SourcePositions {
 
     private int deliverFrom(int chosen) {
         Part source = parts[chosen];
+        // Only a READY PART is ever chosen; the places below are looked up on the strength of this line, not of that.
         if (!source.isReady()) {
             return NONE;
         }
@@ -455,8 +457,9 @@ public final class SourcePositions {
             }
         }
 
+        /** The caller has seen that there is a ROW at the place. */
         private void moveRowsFrom(int place, Part to) {
-            for (int i = Math.max(place, 0); i < rowCount; i++) {
+            for (int i = place; i < rowCount; i++) {
                 to.addRow(numbers[i], times[i], sounds[i]);
             }
             to.ended = ended;
@@ -505,7 +508,7 @@ public final class SourcePositions {
             asideCount = other.asideCount;
         }
 
-        /** The caller has seen that the NUMBER was not GIVEN before. */
+        /** The caller has seen that the NUMBER is one, and was not GIVEN before. */
         private void addGiven(int number) {
             isGiven[number] = true;
             givenCount++;

@@ -8,9 +8,12 @@ public final class MarksTest {
         restoreOfLaterParts();
         restoreOfReaders();
         restoreBehindASplit();
+        restoreOfFindings();
         starts();
         scales();
+        startOfFullParts();
         clears();
+        clearForgetsWhatWasTold();
         D.finish();
     }
 
@@ -145,6 +148,39 @@ public final class MarksTest {
         D.due("told(0, 0)", x.told(0, 0), 0);
     }
 
+    private static void restoreOfFindings() {
+        SourcePositions x = new SourcePositions();
+        x.part(1);
+        x.part(1);
+        x.row(0, 255, 1, true);
+        x.row(0, 0, 2, true);
+        x.row(1, 3, 3, true);
+        x.row(1, 3, 4, false);
+        x.row(0, 4, 5, false);
+        x.scale(2);
+        D.dueReads(x, 0, 255, 0);
+        D.dueReads(x, 1, 3, SourcePositions.ASIDE);
+        x.mark();
+        D.due("start(0)", x.start(0), 2);
+        D.due("given(255) behind start()", x.given(255), 0);
+        D.dueReads(x, 0, 255, 0, SourcePositions.ASIDE);
+        D.due("aside(0, 0) behind start()", x.aside(0, 0), 0);
+        D.due("restore(0)", x.restore(0), 2);
+        D.due("aside(0, 0)", x.aside(0, 0), 1);
+        D.due("aside(0, 1)", x.aside(0, 1), 1);
+        D.due("aside(1, 0)", x.aside(1, 0), SourcePositions.UNKNOWN);
+        x.start(3);
+        D.due("restore(0)", x.restore(0), 1);
+        D.due("given(255)", x.given(255), 1);
+        D.due("given(0)", x.given(0), 1);
+        D.due("given(3)", x.given(3), 1);
+        D.due("count(4)", x.count(4), 3);
+        // What is read after going back must not reach the mark.
+        D.dueReads(x, 0, SourcePositions.ASIDE);
+        D.due("restore(0)", x.restore(0), 1);
+        D.due("count(5)", x.count(5), 1);
+    }
+
     private static void starts() {
         D.promise(12, "start");
         SourcePositions x = new SourcePositions();
@@ -182,6 +218,29 @@ public final class MarksTest {
         D.due("deliveries stay", x.count(3), 3);
         D.due("start(0)", x.start(0), 2);
         D.due("position 0", x.told(0, 0), 0);
+    }
+
+    private static void startOfFullParts() {
+        SourcePositions x = new SourcePositions();
+        for (int part = 0; part < 12; part++) {
+            x.part(1);
+        }
+        for (int i = 0; i < 40; i++) {
+            x.row(11, i, i, true);
+        }
+        x.give(11, 0);
+        D.due("start(39)", x.start(39), 1);
+        D.due("told(11, 0)", x.told(11, 0), 39);
+        D.due("start(40)", x.start(40), 0);
+        D.dueTold(x, 11, 40, -1, 0, 1, 0, 40, 0, 0, 0, -1);
+        D.dueReads(x, 0, SourcePositions.NONE);
+        D.due("split(11, 40)", x.split(11, 40), SourcePositions.UNKNOWN);
+        D.due("rate(11)", x.rate(11), 1000);
+        D.due("mark()", x.mark(), 0);
+        D.due("start(0)", x.start(0), 1);
+        D.due("restore(0)", x.restore(0), 1);
+        D.due("told(11, 0)", x.told(11, 0), 40);
+        D.due("water()", x.water(), -1);
     }
 
     private static void scales() {
@@ -236,8 +295,10 @@ public final class MarksTest {
         x.lose(2, false);
         x.lose(5, true);
         D.dueReads(x, 0, 0, SourcePositions.LOST);
-        D.dueReads(x, 1, SourcePositions.ASIDE);
+        // Part 3, split off part 0, has the greater credit by then, and the number 0 too.
+        D.dueReads(x, 1, SourcePositions.ASIDE, SourcePositions.DOUBLE);
         x.mark();
+        D.dueCounts(x, 4, 2, 1, 4, 1, 1, 1, 1, 1, 1);
         D.due("clear()", x.clear(), 4);
         D.dueCounts(x, 0, 1, 0, 0, 0, 0, 0, 0, 0, 0);
         D.dueLatest(x, -1, -1, -1, -1, -1);
@@ -258,5 +319,41 @@ public final class MarksTest {
         }
         D.dueReads(x, 0, 0, 1, 2, 3, 4, 5, 6, 7, SourcePositions.NONE);
         D.due("restore(0)", x.restore(0), 1);
+    }
+
+    private static void clearForgetsWhatWasTold() {
+        SourcePositions x = new SourcePositions();
+        readAgain(x, 40);
+        for (int n = 1; n <= 50; n++) {
+            x.lose(n, false);
+            x.lose(n, true);
+        }
+        x.start(0);
+        D.dueReads(x, 0, SourcePositions.LOST);
+        D.due("count(7)", x.count(7), 1);
+        D.due("clear()", x.clear(), 1);
+        D.dueCounts(x, 0, 1, 0, 0, 0, 0, 0, 0, 0, 0);
+        readAgain(x, 120);
+        D.due("count(3)", x.count(3), 120);
+        D.due("count(8), none stayed for TWICE", x.count(8), 0);
+        for (int n = 1; n <= 50; n++) {
+            D.due("lose(" + n + ", false)", x.lose(n, false), 1);
+        }
+        x.clear();
+        for (int n = 1; n <= 50; n++) {
+            D.due("lose(" + n + ", false) behind clear()", x.lose(n, false), 1);
+        }
+    }
+
+    /** Reads the one row of a PART that there is not yet, so many times. */
+    private static void readAgain(SourcePositions x, int times) {
+        x.part(1);
+        x.row(0, 9, 9, true);
+        x.give(0, 0);
+        for (int n = 1; n <= times; n++) {
+            x.start(0);
+            D.due("read no. " + n, x.read(0), 9);
+            D.due("position behind read no. " + n, x.told(0, 0), 1);
+        }
     }
 }
