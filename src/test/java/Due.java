@@ -1,23 +1,72 @@
+import java.lang.reflect.InvocationTargetException;
+import java.lang.reflect.Method;
+import java.lang.reflect.Modifier;
+import java.util.Arrays;
+import java.util.Comparator;
+
 /** Compares answers with those that are due, and counts the wrong ones. */
 final class Due {
     private int wrong;
     private int asked;
-    private String promise = "";
+    private String test = "";
 
     /** A call that may throw. */
     interface Call {
         int answer();
     }
 
+    /**
+     * Runs every test of a class, so that none is forgotten: its static methods that take a Due. A test's name
+     * stands ahead of what it finds.
+     */
+    static void run(Class<?> tests) {
+        Due d = new Due();
+        Method[] methods = tests.getDeclaredMethods();
+        Arrays.sort(methods, Comparator.comparing(Method::getName));
+        int ran = 0;
+        for (Method method : methods) {
+            if (isTest(method)) {
+                d.runOne(tests, method);
+                ran++;
+            }
+        }
+        System.out.print(ran + " tests, ");
+        d.finish();
+    }
+
+    private static boolean isTest(Method method) {
+        return Modifier.isStatic(method.getModifiers()) && !method.isSynthetic()
+            && method.getParameterCount() == 1 && method.getParameterTypes()[0] == Due.class;
+    }
+
+    private void runOne(Class<?> tests, Method method) {
+        test = tests.getSimpleName() + "." + method.getName() + ": ";
+        int before = asked;
+        try {
+            method.invoke(null, this);
+        } catch (InvocationTargetException e) {
+            fault("threw " + e.getCause());
+        } catch (IllegalAccessException e) {
+            fault("cannot be called");
+        }
+        if (asked == before) {
+            fault("asks nothing");
+        }
+    }
+
     void promise(int number, String name) {
-        promise = "promise " + number + " (" + name + "): ";
+        test = "promise " + number + " (" + name + "): ";
+    }
+
+    void fault(String what) {
+        wrong++;
+        System.out.println(test + what);
     }
 
     void due(String call, long got, long want) {
         asked++;
         if (got != want) {
-            wrong++;
-            System.out.println(promise + call + " answered " + got + ", due is " + want);
+            fault(call + " answered " + got + ", due is " + want);
         }
     }
 
@@ -30,8 +79,7 @@ final class Due {
         }
         asked++;
         if (!got.isEmpty()) {
-            wrong++;
-            System.out.println(promise + call + " " + got + ", due is throws." + want.getSimpleName());
+            fault(call + " " + got + ", due is throws." + want.getSimpleName());
         }
     }
 
@@ -61,9 +109,16 @@ final class Due {
         }
     }
 
+    /** The same answer of so many reads, one behind the other. */
+    void dueSameReads(SourcePositions x, int task, int times, int want) {
+        for (int i = 1; i <= times; i++) {
+            due("read(" + task + ") no. " + i, x.read(task), want);
+        }
+    }
+
     void finish() {
         System.out.println(asked + " answers, " + wrong + " not as due");
-        if (wrong != 0) {
+        if (wrong != 0 || asked == 0) {
             System.exit(1);
         }
     }

@@ -323,7 +323,7 @@ public final class MarksTest {
 
     private static void clearForgetsWhatWasTold() {
         SourcePositions x = new SourcePositions();
-        readAgain(x, 40);
+        readAgain(x, 10);
         for (int n = 1; n <= 50; n++) {
             x.lose(n, false);
             x.lose(n, true);
@@ -333,8 +333,8 @@ public final class MarksTest {
         D.due("count(7)", x.count(7), 1);
         D.due("clear()", x.clear(), 1);
         D.dueCounts(x, 0, 1, 0, 0, 0, 0, 0, 0, 0, 0);
-        readAgain(x, 120);
-        D.due("count(3)", x.count(3), 120);
+        readAgain(x, 62);
+        D.due("count(3)", x.count(3), 62);
         D.due("count(8), none stayed for TWICE", x.count(8), 0);
         for (int n = 1; n <= 50; n++) {
             D.due("lose(" + n + ", false)", x.lose(n, false), 1);

@@ -3,15 +3,16 @@ import java.util.List;
 import java.util.Random;
 
 /**
- * Runs of 512 calls, drawn from fixed seeds, on the class and on the model: every answer and all state must agree.
+ * Runs of 512 calls, drawn from fixed seeds, on the class and on the model: every answer must agree. A run ends with
+ * questions, so that all state that it came to is looked at from many sides.
  * What calls behind the 512th answer is free, but none may throw what the document does not name: a few runs go on.
  */
 public final class ModelTest {
-    private static final int RUNS = 400;
+    private static final int RUNS = 4000;
     private static final int CALLS = 512;
+    private static final int LEAST_QUESTIONS = 100;
     private static final int LONG_RUNS = 4;
     private static final int LONG_CALLS = 20000;
-    private static final int CHECK_EVERY = 32;
     private static final int[] WILD = {Integer.MIN_VALUE, -2000000012, -100, -12, -2, -1, 0, 1, 5, 6, 7, 11, 12, 39, 40, 41,
         50, 51, 99, 100, 255, 256, 100000, 100001, Integer.MAX_VALUE};
 
@@ -21,6 +22,7 @@ public final class ModelTest {
     private final SourcePositions x = new SourcePositions();
     private final Model model = new Model();
     private final List<String> calls = new ArrayList<>();
+    private boolean threwElsewhere;
 
     /** A call of the class that may throw one of the two that the document names. */
     private interface Call {
@@ -36,21 +38,34 @@ public final class ModelTest {
     public static void main(String[] args) {
         for (int seed = 1; seed <= RUNS + LONG_RUNS; seed++) {
             ModelTest run = new ModelTest(seed);
-            if (!run.agrees(seed <= RUNS ? CALLS : LONG_CALLS)) {
+            if (!(seed <= RUNS ? run.agrees() : run.goesOn())) {
                 System.out.println("seed " + seed + ", the calls: " + run.calls);
                 System.exit(1);
             }
         }
-        System.out.println(RUNS + " runs of " + CALLS + " calls, and " + LONG_RUNS + " of " + LONG_CALLS + ", agree with the model");
+        System.out.println(RUNS + " runs of " + CALLS + " calls agree with the model, " + LONG_RUNS + " of " + LONG_CALLS + " went on");
     }
 
-    private boolean agrees(int most) {
-        for (int i = 1; i <= most; i++) {
-            if (!oneCall() || (i % CHECK_EVERY == 0 && !sameState())) {
+    private boolean agrees() {
+        int changing = 1 + random.nextInt(CALLS - LEAST_QUESTIONS);
+        while (calls.size() < changing) {
+            if (!oneCall()) {
+                return false;
+            }
+        }
+        while (calls.size() < CALLS) {
+            if (!sameQuestion()) {
                 return false;
             }
         }
         return true;
+    }
+
+    private boolean goesOn() {
+        while (calls.size() < LONG_CALLS) {
+            oneCall();
+        }
+        return !threwElsewhere;
     }
 
     private boolean same(String call, Call made, int want) {
@@ -60,10 +75,12 @@ public final class ModelTest {
             got = made.answer();
         } catch (ArrayIndexOutOfBoundsException e) {
             got = Model.INDEX;
+            threwElsewhere |= !call.startsWith("number");
         } catch (NullPointerException e) {
             got = Model.NULL;
+            threwElsewhere |= !call.startsWith("number") && !call.startsWith("rate");
         }
-        if (got != want) {
+        if (got != want && calls.size() <= CALLS) {
             System.out.println(call + " answered " + got + ", the model " + want);
         }
         return got == want;
@@ -153,53 +170,24 @@ public final class ModelTest {
         int what = draw(0, 9);
         int place = draw(0, 39);
         int i = draw(0, Math.max(0, model.count(5) - 1));
-        return same("told(" + part + ", " + what + ")", () -> x.told(part, what), model.told(part, what))
-            && same("number(" + part + ", " + place + ")", () -> x.number(part, place), model.number(part, place))
-            && same("aside(" + i + ", " + what + ")", () -> x.aside(i, what), model.aside(i, what))
-            && same("rate(" + part + ")", () -> x.rate(part), model.rate(part))
-            && same("given(" + i + ")", () -> x.given(i), model.given(i))
-            && same("latest(" + what + ")", () -> x.latest(what), model.latest(what))
-            && same("count(" + what + ")", () -> x.count(what), model.count(what))
-            && same("water()", x::water, model.water());
-    }
-
-    private boolean sameState() {
-        int asked = calls.size();
-        boolean same = same("water()", x::water, model.water());
-        for (int i = -1; i <= 10; i++) {
-            int what = i;
-            same &= same("count(" + what + ")", () -> x.count(what), model.count(what));
-            same &= same("latest(" + what + ")", () -> x.latest(what), model.latest(what));
+        int number = draw(0, random.nextBoolean() ? 30 : 255);
+        switch (random.nextInt(12)) {
+            case 0:
+                return same("water()", x::water, model.water());
+            case 1:
+                return same("latest(" + what / 2 + ")", () -> x.latest(what / 2), model.latest(what / 2));
+            case 2:
+                return same("given(" + number + ")", () -> x.given(number), model.given(number));
+            case 3:
+                return same("aside(" + i + ", " + what / 4 + ")", () -> x.aside(i, what / 4), model.aside(i, what / 4));
+            case 4: case 5:
+                return same("number(" + part + ", " + place + ")", () -> x.number(part, place), model.number(part, place));
+            case 6: case 7:
+                return same("count(" + what + ")", () -> x.count(what), model.count(what));
+            case 8:
+                return same("rate(" + part + ")", () -> x.rate(part), model.rate(part));
+            default:
+                return same("told(" + part + ", " + what + ")", () -> x.told(part, what), model.told(part, what));
         }
-        for (int i = -1; i <= 256; i++) {
-            int number = i;
-            same &= same("given(" + number + ")", () -> x.given(number), model.given(number));
-        }
-        for (int i = -1; i <= 100; i++) {
-            int place = i;
-            same &= same("aside(" + place + ", 0)", () -> x.aside(place, 0), model.aside(place, 0));
-            same &= same("aside(" + place + ", 1)", () -> x.aside(place, 1), model.aside(place, 1));
-        }
-        for (int part = -1; part <= 12; part++) {
-            same &= samePart(part);
-        }
-        // The questions change nothing, so the run is told without them.
-        while (calls.size() > asked) {
-            calls.remove(calls.size() - 1);
-        }
-        return same;
-    }
-
-    private boolean samePart(int part) {
-        boolean same = same("rate(" + part + ")", () -> x.rate(part), model.rate(part));
-        for (int i = -1; i <= 10; i++) {
-            int what = i;
-            same &= same("told(" + part + ", " + what + ")", () -> x.told(part, what), model.told(part, what));
-        }
-        for (int i = -1; i <= 40; i++) {
-            int place = i;
-            same &= same("number(" + part + ", " + place + ")", () -> x.number(part, place), model.number(part, place));
-        }
-        return same;
     }
 }
