@@ -104,6 +104,29 @@ public final class Promise09LoseTest implements Answers {
         }
     }
 
+    /** As many deliveries as the 512 calls of an object leave room for. */
+    static void farAheadBehindMostDeliveries(Due d) {
+        SourcePositions x = new SourcePositions();
+        States.onePart(x, ROWS);
+        for (int i = 0; i < 10; i++) {
+            x.start(0);
+            States.reads(x, 0, ROWS);
+        }
+        d.due("lose(50, false) behind 400", x.lose(50, false), 1);
+        d.due("lose(49, true) behind 400", x.lose(49, true), 1);
+        for (int i = 0; i < 48; i++) {
+            if (i % ROWS == 0) {
+                x.start(0);
+            }
+            d.dueReads(x, 0, i % ROWS);
+        }
+        d.dueReads(x, 0, 8);
+        d.due("told(0, 0), twice", x.told(0, 0), 8);
+        d.dueReads(x, 0, LOST, DOUBLE);
+        d.due("latest(3)", x.latest(3), 451);
+        d.due("count(9)", x.count(9), 0);
+    }
+
     static void toldAgain(Due d) {
         SourcePositions x = new SourcePositions();
         d.due("lose(50, false)", x.lose(50, false), 1);

@@ -284,6 +284,28 @@ public final class Promise11RestoreTest implements Answers {
         d.due("aside(0, 1)", x.aside(0, 1), 0);
     }
 
+    static void whatIsAsideHasRoomAgain(Due d) {
+        SourcePositions x = new SourcePositions();
+        for (int part = 0; part < 3; part++) {
+            x.part(1);
+            for (int i = 0; i < 34; i++) {
+                x.row(part, 0, 0, false);
+            }
+        }
+        x.scale(1);
+        States.reads(x, 0, 99);
+        x.mark();
+        States.reads(x, 0, 3);
+        d.due("count(5)", x.count(5), 100);
+        x.restore(0);
+        d.due("count(5)", x.count(5), 99);
+        x.give(0, NONE);
+        d.dueReads(x, 0, ASIDE, ASIDE);
+        d.due("count(5)", x.count(5), 100);
+        d.due("aside(99, 0), the first of those now", x.aside(99, 0), 1);
+        d.due("aside(99, 1)", x.aside(99, 1), 33);
+    }
+
     static void numbersGivenAtBothEndsGiveWayToThoseKept(Due d) {
         SourcePositions x = new SourcePositions();
         x.part(1);

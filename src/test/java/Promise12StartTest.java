@@ -167,6 +167,25 @@ public final class Promise12StartTest implements Answers {
         d.due("aside(0, 0)", x.aside(0, 0), UNKNOWN);
     }
 
+    static void whatIsAsideHasRoomAgain(Due d) {
+        SourcePositions x = new SourcePositions();
+        for (int part = 0; part < 3; part++) {
+            x.part(1);
+            for (int i = 0; i < 34; i++) {
+                x.row(part, 0, 0, false);
+            }
+        }
+        x.scale(1);
+        States.reads(x, 0, 102);
+        d.due("count(5)", x.count(5), 100);
+        d.due("start(0)", x.start(0), 3);
+        d.dueReads(x, 0, ASIDE);
+        d.due("count(5)", x.count(5), 1);
+        States.reads(x, 0, 101);
+        d.due("count(5)", x.count(5), 100);
+        d.due("aside(100, 0)", x.aside(100, 0), UNKNOWN);
+    }
+
     static void deliveriesAndMarksStay(Due d) {
         SourcePositions x = new SourcePositions();
         States.onePart(x, 3);
