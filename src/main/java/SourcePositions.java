@@ -218,7 +218,7 @@ public final class SourcePositions {
         if (!isNumber(number)) {
             return OUTSIDE;
         }
-        return findings.isGiven[number] ? 1 : 0;
+        return findings.wasGiven(number) ? 1 : 0;
     }
 
     public int number(int part, int place) throws ArrayIndexOutOfBoundsException, NullPointerException {
@@ -372,7 +372,7 @@ public final class SourcePositions {
             source.pass();
             return ASIDE;
         }
-        if (findings.isGiven[number]) {
+        if (findings.wasGiven(number)) {
             deliveries.doubled++;
             source.pass();
             return DOUBLE;
@@ -508,10 +508,15 @@ public final class SourcePositions {
             asideCount = other.asideCount;
         }
 
-        /** The caller has seen that the NUMBER is one, and was not GIVEN before. */
+        private boolean wasGiven(int number) {
+            return isNumber(number) && isGiven[number];
+        }
+
         private void addGiven(int number) {
-            isGiven[number] = true;
-            givenCount++;
+            if (isNumber(number) && !isGiven[number]) {
+                isGiven[number] = true;
+                givenCount++;
+            }
         }
 
         private void setAside(int part, int place) {
